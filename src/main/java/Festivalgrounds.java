@@ -1203,7 +1203,7 @@ public final class Festivalgrounds {
             if (sumOf(gates) == 0) {
                 return NONE;
             }
-            // By how many minutes, from 0 on, not all are out: each step halves what is open.
+            // Who is not out by some minutes is not by fewer ones, so each step can halve the rest.
             int minutes = 0;
             for (int step = FAR; step > 0; step /= 2) {
                 if (firstTooFull(minutes + step - 1) != 0) {
@@ -1417,7 +1417,8 @@ public final class Festivalgrounds {
 
         private int helpersAt(int hour) {
             int many = 0;
-            for (int start = Math.max(0, hour - length + 1); start <= hour && start < HOURS; start++) {
+            int first = Math.max(0, hour - length + 1);
+            for (int start = first; start <= hour && start < HOURS; start++) {
                 many += starts[start];
             }
             return many;

@@ -46,7 +46,8 @@ final class Check {
         refused(what, "NoSuchElementException", festival, call);
     }
 
-    private static void refused(String what, String exception, Festivalgrounds festival, Call call) {
+    private static void refused(
+            String what, String exception, Festivalgrounds festival, Call call) {
         String before = Look.at(festival);
         same(what, outcome(call), "throws." + exception);
         same(what + " changes nothing", Look.at(festival), before);

@@ -155,9 +155,12 @@ public final class RainTests {
         Check.same("19 wishes are dropped", x.actAt(0, 5), 0);
         x.undo();
         Check.same("27", x.undo(), 6);
-        Check.same("27 all is back", x.acts() + " " + x.actAt(0, 5) + " " + x.actAt(1, 0), "4 9 2");
+        Check.same("27 all is back", x.acts() + " " + x.actAt(0, 5) + " " + x.actAt(1, 5) + " "
+                + x.actAt(1, 0) + " " + x.actAt(2, 0), "4 9 8 2 3");
         x.rain(5000, 5001);
         Check.same("19 a plan without acts", x.moveAll(), 0);
+        Check.same("27 it is a change", x.undo(), 6);
+        Check.illegalState("19 undo brings no plan back", x, () -> x.moveAll());
     }
 
     private static void howLongThePlanIsKept() {

@@ -35,7 +35,7 @@ public final class RandomRunTests {
         {"setLoad hour hour load", "setGenerator generator power cheap cheap", "cost",
             "isOn hour"},
         {"act stage begin length check members", "setOpen stage flag", "rain begin minute",
-            "rain begin minute", "movedTo act", "movedTo act", "movedTo act", "moveAll"},
+            "rain begin minute", "movedTo act", "movedTo act", "moveAll", "moveAll", "undo"},
         {"setPrice day price", "ticket visitor day age", "ticket visitor day age",
             "ticket visitor day age", "refund visitor day", "resell visitor visitor day",
             "payBands", "ticketAt visitor day", "balance kind visitor", "checksum"},

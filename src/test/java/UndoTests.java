@@ -11,6 +11,8 @@ public final class UndoTests {
         undoneChangesAreGone();
         sameValuesAreChanges();
         linesComeBack();
+        numbersAreGivenAnew();
+        generatorsComeBack();
         Check.end("UndoTests");
     }
 
@@ -195,6 +197,38 @@ public final class UndoTests {
         Check.same("10", x.undo(), 2);
         Check.same("10", x.undo(), 1);
         Check.same("10", x.undo(), 0);
+    }
+
+    private static void numbersAreGivenAnew() {
+        Festivalgrounds x = new Festivalgrounds();
+        x.act(1, 1000, 50, 20, 9);
+        x.wish(7, 0, 5);
+        x.drop(0);
+        x.act(2, 2000, 60, 30, 6);
+        x.wish(8, 0, 4);
+        x.undo();
+        x.undo();
+        Check.same("27", x.undo(), 2);
+        int[] due = {1, 1000, 50, 20, 9, 5, 1};
+        for (int what = 0; what <= 6; what++) {
+            Check.same("27 the act that was dropped", x.actAt(0, what), due[what]);
+        }
+        Check.same("27 its wishes", x.wish(7, 0, 1), 5);
+        Check.same("27 its wishes", x.wish(8, 0, 1), 0);
+    }
+
+    private static void generatorsComeBack() {
+        Festivalgrounds x = new Festivalgrounds();
+        x.setGenerator(1, 100, 7, 3);
+        x.setLoad(4, 5, 60);
+        Check.same("27", x.cost(), 13);
+        x.setGenerator(1, 50, 0, 0);
+        x.undo();
+        Check.same("27 power, start and hour", x.cost(), 13);
+        x.setWay(2, 3, 1);
+        x.undo();
+        x.setWay(0, 3, 5);
+        Check.same("27 ways, too", x.walk(0, 2), 10);
     }
 
     private static void linesComeBack() {
