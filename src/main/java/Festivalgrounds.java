@@ -744,11 +744,11 @@ public final class Festivalgrounds {
         final int[] lostAt = new int[THINGS];
 
         Grounds() {
-            fillRow(ways, 10);
-            for (int stage = 0; stage < STAGES; stage++) {
-                ways[stage * STAGES + stage] = 0;
+            for (int place = 0; place < ways.length && place < walks.length; place++) {
+                ways[place] = place / STAGES == place % STAGES ? 0 : 10;
+                // All ways are the same at first, so none is shorter by another stage.
+                walks[place] = ways[place];
             }
-            measureWalks();
             fillRow(lostAt, NONE);
         }
 
