@@ -10,6 +10,8 @@ public final class BarEdgeTests {
         serving();
         servingChangesWhileServed();
         join();
+        joinBehindThoseWhoAreLeft();
+        joinAgainAndAgain();
         oneLineAtMost();
         leave();
         leaveFromEachPlace();
@@ -125,6 +127,70 @@ public final class BarEdgeTests {
             x.join(0, 0);
             x.pass(2);
         }, x -> x.join(0, 1), 1);
+    }
+
+    private static void joinBehindThoseWhoAreLeft() {
+        for (int i = 1; i <= 11; i++) {
+            int many = i;
+            for (int j = 0; j <= many; j++) {
+                int gone = j;
+                int wait = 3 * (many - gone);
+                Edge.answers("12 at its end, " + gone + " of " + many + " were served", x -> {
+                    for (int visitor = 0; visitor < many; visitor++) {
+                        x.join(1, visitor);
+                    }
+                    for (int visitor = 0; visitor < gone; visitor++) {
+                        x.pass(3);
+                    }
+                }, x -> x.join(1, 11) + " " + x.line(1), wait + " " + (many - gone + 1));
+                Edge.answers("12 at its end, " + gone + " of " + many + " left", x -> {
+                    for (int visitor = 0; visitor < many; visitor++) {
+                        x.join(2, visitor);
+                    }
+                    for (int visitor = 0; visitor < gone; visitor++) {
+                        x.leave(visitor);
+                    }
+                }, x -> x.join(2, 11) + " " + x.line(2), wait + " " + (many - gone + 1));
+                Edge.answers("45 one line, " + gone + " of " + many + " left", x -> {
+                    for (int visitor = 0; visitor < many; visitor++) {
+                        x.join(0, visitor);
+                    }
+                    for (int visitor = 0; visitor < gone; visitor++) {
+                        x.leave(visitor);
+                    }
+                }, x -> x.waits(true), oneLine(many - gone - 1));
+            }
+        }
+    }
+
+    /** The waits of as many behind the one who is served, by one line: two, then three a time. */
+    private static int oneLine(int many) {
+        int sum = 0;
+        for (int i = 2; i < many; i++) {
+            sum += 3 * ((i + 1) / 3);
+        }
+        return sum;
+    }
+
+    private static void joinAgainAndAgain() {
+        Edge.answers("12 more than twelve times, by turns", x -> {
+            for (int i = 0; i < 40; i++) {
+                x.join(i % 3, i % 12);
+                x.join((i + 1) % 3, (i + 5) % 12);
+                x.leave(i % 12);
+                x.leave((i + 5) % 12);
+            }
+            for (int visitor = 11; visitor > 0; visitor--) {
+                x.join(1, visitor);
+            }
+        }, x -> x.join(1, 0) + " " + x.waitOf(1) + " " + x.waitOf(11) + " " + x.line(1),
+                "33 30 0 12");
+        Edge.answers("12 who left joins at the end", x -> {
+            x.join(1, 0);
+            x.join(1, 1);
+            x.join(1, 2);
+            x.leave(0);
+        }, x -> x.join(1, 0) + " " + x.waitOf(1) + " " + x.waitOf(2), "6 0 3");
     }
 
     private static void oneLineAtMost() {
@@ -344,6 +410,13 @@ public final class BarEdgeTests {
                 x.join(0, visitor);
             }
         };
+        for (int i = 0; i < 12; i++) {
+            int visitor = i;
+            Edge.answers("45 each one who waits", x -> {
+                x.join(2, (visitor + 7) % 12);
+                x.join(2, visitor);
+            }, x -> x.waits(false), 3);
+        }
         Edge.answers("45 all twelve in one line", all, x -> x.waits(false), 660);
         // Eleven wait: two begin now, then three each at 10, 20 and 30.
         Edge.answers("45 all twelve, told by one line", all, x -> x.waits(true), 180);

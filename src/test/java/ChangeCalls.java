@@ -1,5 +1,5 @@
 /**
- * Each call under "Changes" but moveAll() and undo(): once as it works on Edge.FULL, once as it
+ * Each call under "Changes" but moveAll() and undo(): as it works on Edge.FULL, and as it
  * throws there.
  */
 final class ChangeCalls {
@@ -17,7 +17,7 @@ final class ChangeCalls {
         x -> x.refund(0, 0), x -> x.resell(0, 6, 0), x -> x.payBands(), x -> x.lose(4, 0),
         x -> x.find(-1)};
 
-    /** The same calls again, as they leave all as it is; the first ones work on Edge.FULL. */
+    /** Those of the calls that can leave all of Edge.FULL as it is, doing so. */
     private static final Edge.Call[] SAME = {x -> x.setDate(2027, 12, 30),
         x -> x.setOpen(1, true), x -> x.setWay(0, 1, 7), null, null, x -> x.wish(0, 0, 3),
         x -> x.setGate(0, 5), x -> x.setReach(0, 0, 2), x -> x.setCrowd(0, 100),

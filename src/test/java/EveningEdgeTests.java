@@ -17,6 +17,7 @@ public final class EveningEdgeTests {
         listenersOfAnAct();
         listenersOfBestEvenings();
         listenersAtTheEnds();
+        listenersOfALongEvening();
         meanEvening();
         Check.end("EveningEdgeTests");
     }
@@ -188,6 +189,9 @@ public final class EveningEdgeTests {
         Edge.refuses("37 not by 0", three, x -> x.eveningAct(0, 0, 2), N);
         Edge.answers("37 by 1", Edge.behind(three, x -> x.wish(0, 1, 1)),
                 x -> x.eveningAct(0, 0, 1), 1);
+        Edge.Steps atTheEnd = Edge.behind(three, x -> x.act(0, 400, 50, 0, 1));
+        Edge.refuses("37 not by 0, at the end", atTheEnd, x -> x.eveningAct(0, 0, 2), N);
+        Edge.answers("39 nor is it heard", atTheEnd, x -> x.listeners(0, 400), 0);
         Edge.answers("36 one that is not wished bars no way", Edge.behind(three, x -> {
             x.drop(1);
             x.act(0, 149, 152, 0, 1);
@@ -340,6 +344,15 @@ public final class EveningEdgeTests {
             x.act(1, 1440, 50, 0, 1);
             x.wish(4, 1, 3);
         }), x -> x.listeners(1, 1440), 1);
+    }
+
+    private static void listenersOfALongEvening() {
+        for (int i = 0; i < 16; i++) {
+            int begin = 10 * i;
+            Edge.answers("39 each act of 16", LONG,
+                    x -> x.listeners(0, begin) + x.listeners(0, begin + 9), 2);
+        }
+        Edge.answers("39 behind the last one", LONG, x -> x.listeners(0, 160), 0);
     }
 
     private static void meanEvening() {

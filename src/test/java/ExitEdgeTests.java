@@ -180,7 +180,8 @@ public final class ExitEdgeTests {
             x.setCrowd(2, 0);
         });
         Edge.answers("40 one more than one stage alone", one, x -> x.outBy(), 2031);
-        Edge.answers("41 the last stage has too many with the first one only", one, x -> x.cut(), 9);
+        Edge.answers("41 the last stage has too many with the first one only", one,
+                x -> x.cut(), 9);
         Edge.Steps fast = Edge.behind(slow, x -> {
             x.setGate(0, 50);
             x.setGate(1, 50);

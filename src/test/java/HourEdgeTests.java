@@ -14,6 +14,8 @@ public final class HourEdgeTests {
         proofOfOneHour();
         proofKeepsHoursApart();
         proofOfSeveral();
+        proofAtTheEndOfTheDay();
+        proofAtTheBeginOfTheDay();
         loadNumbers();
         loadsOfHours();
         generatorNumbers();
@@ -209,6 +211,49 @@ public final class HourEdgeTests {
             x.setNeed(9, 3);
             x.setNeed(10, 2);
         }), x -> x.proof(), 1 << 5 | 1 << 9);
+    }
+
+    private static void proofAtTheEndOfTheDay() {
+        for (int i = 3; i <= 10; i++) {
+            int shift = i;
+            Edge.Steps last = x -> {
+                x.setShift(shift);
+                x.setNeed(21, 4);
+                x.setNeed(22, 3);
+                x.setNeed(23, 5);
+            };
+            Edge.answers("48 the last hour needs the most", last, x -> x.proof(), 1 << 23);
+            Edge.answers("48 the last hour needs as many as the first of them",
+                    Edge.behind(last, x -> x.setNeed(23, 4)), x -> x.proof(), 1 << 21);
+            Edge.answers("48 the last hour but one needs the most",
+                    Edge.behind(last, x -> x.setNeed(22, 6)), x -> x.proof(), 1 << 22);
+        }
+        Edge.answers("48 the last hours in shifts of 2", x -> {
+            x.setShift(2);
+            x.setNeed(21, 4);
+            x.setNeed(22, 9);
+            x.setNeed(23, 5);
+        }, x -> x.proof(), 1 << 21 | 1 << 23);
+        Edge.answers("48 the last hours in shifts of 2, the middle one needs as many", x -> {
+            x.setShift(2);
+            x.setNeed(21, 4);
+            x.setNeed(22, 9);
+            x.setNeed(23, 4);
+        }, x -> x.proof(), 1 << 22);
+    }
+
+    private static void proofAtTheBeginOfTheDay() {
+        for (int i = 2; i <= 10; i++) {
+            int shift = i;
+            Edge.Steps first = x -> {
+                x.setShift(shift);
+                x.setNeed(0, 3);
+                x.setNeed(1, 4);
+            };
+            Edge.answers("48 the hour 1 needs more", first, x -> x.proof(), 1 << 1);
+            Edge.answers("48 the hour 0 needs as many",
+                    Edge.behind(first, x -> x.setNeed(0, 4)), x -> x.proof(), 1);
+        }
     }
 
     private static void loadNumbers() {

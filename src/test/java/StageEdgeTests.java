@@ -108,7 +108,8 @@ public final class StageEdgeTests {
     }
 
     private static void months() {
-        Edge.range("2 month: 1 to 12", Edge.FULL, 1, 12, A, (x, month) -> x.setDate(2026, month, 1));
+        Edge.range("2 month: 1 to 12", Edge.FULL, 1, 12, A,
+                (x, month) -> x.setDate(2026, month, 1));
         Edge.range("2 month: 1 to 12", Edge.FULL, 1, 12, A,
                 (x, month) -> x.setDate(2026, month, 28));
     }
