@@ -1,5 +1,5 @@
 /**
- * What later calls show of a festival, in parts of fewer than 450 calls each; a festival at which
+ * What later calls show of a festival, in parts of fewer than 300 calls each; a festival at which
  * one of them has looked is used up, since some look by changes.
  */
 enum Probe {
@@ -100,7 +100,7 @@ enum Probe {
     LISTENERS {
         @Override
         void note(Festivalgrounds x, Notes notes) {
-            for (int i = 0; i < 5760; i += 53) {
+            for (int i = 0; i < 5760; i += 97) {
                 int minute = i;
                 for (int j = 0; j < 4; j++) {
                     int stage = j;
@@ -131,7 +131,7 @@ enum Probe {
     BARS {
         @Override
         void note(Festivalgrounds x, Notes notes) {
-            for (int minute = 0; minute < 24; minute++) {
+            for (int minute = 0; minute < 20; minute++) {
                 for (int i = 0; i < 3; i++) {
                     int bar = i;
                     notes.add(() -> x.line(bar));

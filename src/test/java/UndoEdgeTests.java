@@ -52,7 +52,7 @@ public final class UndoEdgeTests {
     }
 
     private static void ninthChange() {
-        int[] manys = {8, 9, 10, 15, 16, 17, 24, 25, 100, 300};
+        int[] manys = {8, 9, 10, 15, 16, 17, 24, 25, 100, 200};
         for (int i = 0; i < manys.length; i++) {
             int many = manys[i];
             Edge.answers("27 the latest 8 can be undone, of " + many, changes(many),
